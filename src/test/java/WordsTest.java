@@ -13,11 +13,21 @@ public final class WordsTest {
     private final int[][] rows;
     private final int inputs;
     private final List<int[]> words;
+    private final int[] leastLike;
+    /** The sets come to, in the order of the words that first come to them. */
+    private final List<Integer> setsInOrder;
 
-    private WordsTest(int[][] rows) {
+    private WordsTest(int[][] rows, List<int[]> words) {
         this.rows = rows;
         inputs = rows[0].length / 2;
-        words = allWords(inputs);
+        this.words = words;
+        leastLike = new int[rows.length];
+        for (int s = 0; s < rows.length; s++) {
+            while (witness(leastLike[s], this, s) != null) {
+                leastLike[s]++;
+            }
+        }
+        setsInOrder = setsInOrder();
     }
 
     /** Shortest first, of these by the first letter that is not alike. */
@@ -78,26 +88,17 @@ public final class WordsTest {
         Map<String, Integer> ends = new HashMap<>();
         for (int s = 0; s < rows.length; s++) {
             Integer other = ends.putIfAbsent(outputs(s, word), end(s, word));
-            if (other != null && witness(other, this, end(s, word)) != null) {
+            if (other != null && leastLike[other] != leastLike[end(s, word)]) {
                 return false;
             }
         }
         return true;
     }
 
-    private int leastLike(int state) {
-        int other = 0;
-        while (witness(other, this, state) != null) {
-            other++;
-        }
-        return other;
-    }
-
-    /** The sets come to, in the order of the words that first come to them. */
     private List<Integer> setsInOrder() {
         List<Integer> sets = new ArrayList<>();
         for (int[] word : words) {
-            int set = leastLike(end(0, word));
+            int set = leastLike[end(0, word)];
             if (word.length < rows.length && !sets.contains(set)) {
                 sets.add(set);
             }
@@ -116,19 +117,19 @@ public final class WordsTest {
     private void checkSets(String name, MachineTables x, int m) {
         List<Integer> leastOnes = new ArrayList<>();
         for (int s = 0; s < rows.length; s++) {
-            Due.is(name + "like " + s, leastLike(s), x.like(m, s));
-            if (leastLike(s) == s) {
+            Due.is(name + "like " + s, leastLike[s], x.like(m, s));
+            if (leastLike[s] == s) {
                 leastOnes.add(s);
             }
-            Due.is(name + "part " + s, setsInOrder().indexOf(leastLike(s)), x.part(m, s));
+            Due.is(name + "part " + s, setsInOrder.indexOf(leastLike[s]), x.part(m, s));
         }
         Due.is(name + "classes", leastOnes.size(), x.classes(m));
         int n = x.least(m);
-        Due.is(name + "states of least", setsInOrder().size(), x.total(100 + n));
-        for (int set = 0; set < setsInOrder().size(); set++) {
-            int state = setsInOrder().get(set);
+        Due.is(name + "states of least", setsInOrder.size(), x.total(100 + n));
+        for (int set = 0; set < setsInOrder.size(); set++) {
+            int state = setsInOrder.get(set);
             for (int i = 0; i < inputs; i++) {
-                int next = setsInOrder().indexOf(leastLike(rows[state][2 * i]));
+                int next = setsInOrder.indexOf(leastLike[rows[state][2 * i]]);
                 Due.is(name + "next of least", next, x.look(n, set, i, 0));
                 Due.is(name + "output of least", rows[state][2 * i + 1], x.look(n, set, i, 1));
             }
@@ -169,37 +170,49 @@ public final class WordsTest {
         }
     }
 
+    /** The arrows of a machine of the object, as rows. */
+    private static int[][] read(MachineTables x, int m) {
+        int[][] all = new int[x.total(100 + m)][2 * x.total(200 + m)];
+        for (int s = 0; s < all.length; s++) {
+            for (int at = 0; at < all[s].length; at++) {
+                all[s][at] = x.look(m, s, at / 2, at % 2);
+            }
+        }
+        return all;
+    }
+
     private void checkChain(String name, MachineTables x, WordsTest that) {
-        int n = x.chain(0, 1);
+        WordsTest chained = new WordsTest(read(x, x.chain(0, 1)), words);
         for (int[] word : words) {
             String between = outputs(0, word);
-            int[] second = new int[between.length()];
+            int[] second = new int[word.length];
             for (int i = 0; i < second.length; i++) {
                 second[i] = between.charAt(i) - '0';
             }
-            int at = 0;
-            for (int i = 0; i < word.length; i++) {
-                int told = x.look(n, at, word[i], 1);
-                Due.is(name + "output of chain", that.outputs(0, second).charAt(i) - '0', told);
-                at = x.look(n, at, word[i], 0);
-            }
+            Due.same(name + "outputs of chain", that.outputs(0, second), chained.outputs(0, word));
         }
     }
 
+    private static MachineTables with(WordsTest a, WordsTest b) {
+        MachineTables x = new MachineTables();
+        Tables.make(x, a.rows);
+        Tables.make(x, b.rows);
+        return x;
+    }
+
     public static void main(String[] args) {
-        for (int seed = 0; seed < 150; seed++) {
+        List<int[]> words = allWords(2);
+        for (int seed = 0; seed < 600; seed++) {
             Random dice = new Random(seed);
-            WordsTest a = new WordsTest(Tables.random(dice, 1 + dice.nextInt(4), 2, 2));
-            WordsTest b = new WordsTest(Tables.random(dice, 1 + dice.nextInt(4), 2, 3));
-            MachineTables x = new MachineTables();
-            Tables.make(x, a.rows);
-            Tables.make(x, b.rows);
-            a.checkWitnesses("seed " + seed + ": ", x, b);
-            a.checkSets("seed " + seed + " first: ", x, 0);
-            a.checkWords("seed " + seed + " first: ", x, 0);
-            b.checkSets("seed " + seed + " second: ", x, 1);
-            b.checkWords("seed " + seed + " second: ", x, 1);
-            a.checkChain("seed " + seed + ": ", x, b);
+            WordsTest a = new WordsTest(Tables.random(dice, 1 + dice.nextInt(4), 2, 2), words);
+            WordsTest b = new WordsTest(Tables.random(dice, 1 + dice.nextInt(4), 2, 3), words);
+            String name = "seed " + seed + ": ";
+            a.checkWitnesses(name, with(a, b), b);
+            a.checkSets(name, with(a, b), 0);
+            b.checkSets(name, with(a, b), 1);
+            a.checkWords(name, with(a, b), 0);
+            b.checkWords(name, with(a, b), 1);
+            a.checkChain(name, with(a, b), b);
         }
         Due.end();
     }
