@@ -1,9 +1,22 @@
+import java.util.Arrays;
+
 /** Counts the answers that are not as due, and ends a test with 1 if there was one. */
 final class Due {
     private static int asked = 0;
     private static int wrong = 0;
+    private static String about = "";
 
     private Due() {
+    }
+
+    /** Stands ahead of each wrong answer that is told from here on. */
+    static void about(String words) {
+        about = words + ": ";
+    }
+
+    /** A call as it is written. */
+    static String call(String name, int... with) {
+        return name + Arrays.toString(with).replace('[', '(').replace(']', ')');
     }
 
     static void is(String call, long want, long got) {
@@ -18,7 +31,7 @@ final class Due {
         asked++;
         if (!want.equals(got)) {
             wrong++;
-            System.out.println(call + " answered " + got + ", due is " + want);
+            System.out.println(about + call + " answered " + got + ", due is " + want);
         }
     }
 
