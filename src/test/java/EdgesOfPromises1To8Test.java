@@ -44,6 +44,30 @@ public final class EdgesOfPromises1To8Test {
         x.due(0, "machine", 2, 1);
         x.due(1, "total", 0);
         x.due(1, "along", 0, 1);
+        newBesideAnOlder();
+    }
+
+    /** Nothing of one object is another's, though they take turns. */
+    private static void newBesideAnOlder() {
+        Run older = withFour();
+        String before = older.all();
+        Run x = new Run();
+        older.stays(before);
+        older.due(3, "classes", 0);
+        x.due(0, "total", 0);
+        x.due(0, "total", 1);
+        x.make(Rows.cycle(3, 1));
+        x.due(3, "classes", 0);
+        x.due(false, "alike", 0, 1, 0, 2);
+        older.stays(before);
+        older.due(1, "least", 0);
+        x.due(1, "total", 0);
+        x.wordIs("0");
+        x.machineIs(0, "1/0, 2/0, 0/1,");
+        x.due(null, "clear");
+        older.due(2, "total", 0);
+        older.wordIs("00");
+        older.machineIs(0, FOUR_TEXT);
     }
 
     private static void machineComes() {
